@@ -62,7 +62,8 @@ final class FaceTest {
                     !Modifier.isStatic(f.getModifiers()) || Modifier.isFinal(f.getModifiers()));
         }
         for (Class<?> c : face.getDeclaredClasses()) {
-            Check.isTrue("static class " + c, Modifier.isStatic(c.getModifiers()));
+            Check.isFalse("class to be seen from outside " + c,
+                    Modifier.isPublic(c.getModifiers()) || Modifier.isProtected(c.getModifiers()));
         }
         Check.end();
     }

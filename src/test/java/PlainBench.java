@@ -11,7 +11,7 @@ import java.util.TreeMap;
  * The document word for word, with lists and maps and without a thought of speed: what the class is
  * held against. It shares no way of counting with the class.
  */
-final class PlainBench {
+final class PlainBench implements Face {
     private final List<List<Integer>> slots = new ArrayList<>();
     private final List<List<Integer>> words = new ArrayList<>();
     private List<List<Integer>> p = new ArrayList<>();
@@ -27,7 +27,8 @@ final class PlainBench {
 
     // Shapes.
 
-    boolean shape(int slot, long w) {
+    @Override
+    public boolean shape(int slot, long w) {
         slotOf(slot);
         List<Integer> rows = new ArrayList<>();
         int sum = 0;
@@ -46,12 +47,14 @@ final class PlainBench {
         return true;
     }
 
-    int row(int slot, int i) {
+    @Override
+    public int row(int slot, int i) {
         List<Integer> rows = slotOf(slot);
         return i >= 0 && i < rows.size() ? rows.get(i) : 0;
     }
 
-    boolean conjugate(int slot) {
+    @Override
+    public boolean conjugate(int slot) {
         List<Integer> rows = slotOf(slot);
         List<Integer> columns = new ArrayList<>();
         for (int c = 0; !rows.isEmpty() && c < rows.get(0); c++) {
@@ -68,14 +71,16 @@ final class PlainBench {
         return true;
     }
 
-    int rank(int slot) {
+    @Override
+    public int rank(int slot) {
         int n = sum(slotOf(slot));
         List<List<Integer>> all = new ArrayList<>();
         partitions(n, n, new ArrayList<>(), all);
         return all.indexOf(slotOf(slot));
     }
 
-    void unrank(int slot, int n, int rank) {
+    @Override
+    public void unrank(int slot, int n, int rank) {
         slotOf(slot);
         if (n < 0 || n > 24) {
             throw new IllegalArgumentException();
@@ -93,12 +98,14 @@ final class PlainBench {
 
     // Words.
 
-    boolean letter(int word, int v) {
+    @Override
+    public boolean letter(int word, int v) {
         List<Integer> w = wordOf(word);
         return v >= 1 && v <= 16 && w.size() < 16 && w.add(v);
     }
 
-    boolean cut(int word, int n) {
+    @Override
+    public boolean cut(int word, int n) {
         List<Integer> w = wordOf(word);
         if (n < 0 || n > w.size()) {
             return false;
@@ -107,18 +114,21 @@ final class PlainBench {
         return true;
     }
 
-    int length(int word) {
+    @Override
+    public int length(int word) {
         return wordOf(word).size();
     }
 
-    int at(int word, int i) {
+    @Override
+    public int at(int word, int i) {
         List<Integer> w = wordOf(word);
         return i >= 0 && i < w.size() ? w.get(i) : 0;
     }
 
     // The bench.
 
-    int insert(int word, boolean columns) {
+    @Override
+    public int insert(int word, boolean columns) {
         List<Integer> w = wordOf(word);
         p = new ArrayList<>();
         q = new ArrayList<>();
@@ -129,11 +139,13 @@ final class PlainBench {
         return p.size();
     }
 
-    int entry(boolean fromQ, int r, int c) {
+    @Override
+    public int entry(boolean fromQ, int r, int c) {
         return fromQ && q == null ? 0 : letterAt(fromQ ? q : p, r, c);
     }
 
-    void recover(int word) {
+    @Override
+    public void recover(int word) {
         wordOf(word);
         if (q == null) {
             throw new IllegalStateException();
@@ -158,7 +170,8 @@ final class PlainBench {
         words.set(word, w);
     }
 
-    void read(int word) {
+    @Override
+    public void read(int word) {
         wordOf(word);
         List<Integer> w = new ArrayList<>();
         for (int r = p.size() - 1; r >= 0; r--) {
@@ -170,7 +183,8 @@ final class PlainBench {
         words.set(word, w);
     }
 
-    boolean equivalent() {
+    @Override
+    public boolean equivalent() {
         List<List<Integer>> first = new ArrayList<>();
         List<List<Integer>> second = new ArrayList<>();
         words.get(0).forEach(v -> putByRows(first, v));
@@ -178,7 +192,8 @@ final class PlainBench {
         return first.equals(second);
     }
 
-    int rectify(int inner, int outer, int word, int order) {
+    @Override
+    public int rectify(int inner, int outer, int word, int order) {
         List<Integer> in = new ArrayList<>(slotOf(inner));
         List<Integer> out = slotOf(outer);
         List<Integer> w = wordOf(word);
@@ -212,7 +227,8 @@ final class PlainBench {
         return slides;
     }
 
-    void turn() {
+    @Override
+    public void turn() {
         int n = size(p);
         Set<Integer> letters = new HashSet<>();
         p.forEach(letters::addAll);
@@ -236,7 +252,8 @@ final class PlainBench {
         q = null;
     }
 
-    long draw(int slot, long seed) {
+    @Override
+    public long draw(int slot, long seed) {
         List<Integer> rows = slotOf(slot);
         List<List<Integer>> boxes = new ArrayList<>();
         for (int r = 0; r < rows.size(); r++) {
@@ -265,7 +282,8 @@ final class PlainBench {
     // Counts.
 
     /** The greatest letter can stand in any corner. */
-    long standard(int slot) {
+    @Override
+    public long standard(int slot) {
         return standardOf(slotOf(slot), new HashMap<>());
     }
 
@@ -286,7 +304,8 @@ final class PlainBench {
     }
 
     /** The greatest letters fill what lies between the shape and one inside it. */
-    long fillings(int slot, int word) {
+    @Override
+    public long fillings(int slot, int word) {
         List<Integer> rows = slotOf(slot);
         List<Integer> w = wordOf(word);
         if (w.size() != sum(rows)) {
@@ -327,7 +346,8 @@ final class PlainBench {
     }
 
     /** All fillings with the right letters are made, and looked at only when they are whole. */
-    long coefficient(int a, int b, int c) {
+    @Override
+    public long coefficient(int a, int b, int c) {
         List<Integer> in = slotOf(a);
         List<Integer> times = new ArrayList<>(slotOf(b));
         List<Integer> out = slotOf(c);
@@ -377,7 +397,8 @@ final class PlainBench {
         return true;
     }
 
-    long character(int slot, int type) {
+    @Override
+    public long character(int slot, int type) {
         List<Integer> s = slotOf(slot);
         List<Integer> t = slotOf(type);
         if (sum(s) != sum(t)) {
@@ -477,27 +498,6 @@ final class PlainBench {
             s.append(s.length() > 0 ? " " : "").append(v);
         }
         return s.toString();
-    }
-
-    String tableau(boolean fromQ) {
-        List<String> rows = new ArrayList<>();
-        for (List<Integer> row : fromQ ? q == null ? new ArrayList<List<Integer>>() : q : p) {
-            rows.add(spaced(row));
-        }
-        return String.join("/", rows);
-    }
-
-    /** As Check.all tells it of the class. */
-    String all() {
-        StringBuilder s = new StringBuilder();
-        for (List<Integer> rows : slots) {
-            s.append("slot ").append(spaced(rows)).append("; ");
-        }
-        for (List<Integer> w : words) {
-            s.append("word ").append(spaced(w)).append("; ");
-        }
-        return s.append("P ").append(tableau(false)).append("; Q ").append(tableau(true))
-                .toString();
     }
 
     private List<Integer> slotOf(int slot) {
