@@ -180,5 +180,8 @@ final class DrawingEdgesTest {
         Check.raises("recover", IllegalStateException.class, () -> b.recover(1));
         Check.text("the words", Check.word(b, 0) + ", " + Check.word(b, 1), "3 1 2, 2 2 1 5 3");
         Check.text("the slots", Check.slot(b, 0) + ", " + Check.slot(b, 1), "4 2 1, 3 3");
+        String p = Check.tableau(b, false);
+        b.shape(1, 1);
+        Check.text("P stays when the slot changes", Check.tableau(b, false), p);
     }
 }

@@ -8,6 +8,7 @@ final class InsertionEdgesTest {
         equalLettersByColumns();
         firstOneThatIsGreater();
         firstOneThatIsNotLess();
+        firstLetterFirst();
         beginsWithoutBoxes();
         beginsWithoutLargerOnes();
         emptyWord();
@@ -69,6 +70,14 @@ final class InsertionEdgesTest {
         gives(true, "1 2/3", "1 3/2", 2, 3, 1);
         gives(true, "1 3/2", "1 2/3", 3, 1, 2);
         gives(true, "1 1 2/3", "1 3 4/2", 2, 3, 1, 1);
+    }
+
+    private static void firstLetterFirst() {
+        Check.sentence("Terms: the first one first (by columns, too), to put its number into Q");
+        gives(false, "1 3/2", "1 3/2", 2, 1, 3);
+        gives(true, "1 2/3", "1 2/3", 2, 1, 3);
+        gives(false, "1 3/2", "1 2/3", 2, 3, 1);
+        gives(true, "1 2/3", "1 3/2", 2, 3, 1);
     }
 
     private static void beginsWithoutBoxes() {

@@ -114,6 +114,13 @@ final class RefusalsTest {
         refuses("coefficient, a too great", BOUNDS, b -> b.coefficient(0, 4, 1));
         refuses("coefficient, c not a and b", BOUNDS, b -> b.coefficient(-1, 0, 1));
         refuses("coefficient, all wrong", BOUNDS, b -> b.coefficient(4, 4, 4));
+        Check.Scene great = () -> Check.benchWith(Check.of(24), Check.of(23, 1), Check.of(17));
+        Check.refuses("coefficient, 48 boxes, no c", BOUNDS, great, b -> b.coefficient(0, 1, 4));
+        Check.refuses("coefficient, 24 of 17 boxes, no b", BOUNDS, great,
+                b -> b.coefficient(0, -1, 2));
+        Check.refuses("coefficient, 24 of 17 boxes, no a", BOUNDS, great,
+                b -> b.coefficient(4, 0, 2));
+        Check.refuses("fillings of 17 boxes, no word", BOUNDS, great, b -> b.fillings(2, 2));
         Check.refuses("fillings of an empty slot", BOUNDS, Bench::new, b -> b.fillings(0, 2));
         Check.refuses("coefficient of empty slots", BOUNDS, Bench::new,
                 b -> b.coefficient(0, 0, 4));

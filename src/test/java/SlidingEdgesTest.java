@@ -38,6 +38,8 @@ final class SlidingEdgesTest {
             Check.spell(b, 1, word);
             Check.same("slides of order " + order, b.rectify(3, 2, 1, order), slides);
             Check.text("P of order " + order, Check.tableau(b, false), p);
+            Check.text("Q of order " + order, Check.tableau(b, true), "");
+            Check.raises("recover, Q away", STATE, () -> b.recover(0));
         }
     }
 
