@@ -1,7 +1,10 @@
+import java.io.IOException;
 import java.lang.reflect.Constructor;
 import java.lang.reflect.Field;
 import java.lang.reflect.Method;
 import java.lang.reflect.Modifier;
+import java.nio.file.Files;
+import java.nio.file.Path;
 import java.util.Arrays;
 import java.util.TreeSet;
 
@@ -34,7 +37,7 @@ final class FaceTest {
                 + " UnsupportedOperationException",
     };
 
-    public static void main(String[] args) {
+    public static void main(String[] args) throws IOException {
         Class<?> face = TableauBench.class;
         int mods = face.getModifiers();
         Check.isTrue("public final", Modifier.isPublic(mods) && Modifier.isFinal(mods));
@@ -65,7 +68,23 @@ final class FaceTest {
             Check.isFalse("class to be seen from outside " + c,
                     Modifier.isPublic(c.getModifiers()) || Modifier.isProtected(c.getModifiers()));
         }
+        asTheDocumentWritesIt();
         Check.end();
+    }
+
+    /** Each line of the document's face stands in the source, the names of parameters, too. */
+    private static void asTheDocumentWritesIt() throws IOException {
+        String source = Files.readString(Path.of("src/main/java/TableauBench.java"))
+                .replaceAll("\\s+", " ");
+        int lines = 0;
+        for (String line : Files.readAllLines(Path.of("../shared/DOC.md"))) {
+            if (line.startsWith("    public ") && line.endsWith(";")) {
+                String due = line.trim().replace(";", " {");
+                Check.isTrue("in the source: " + due, source.contains(due));
+                lines++;
+            }
+        }
+        Check.same("lines of the face", lines, FACE.length + 1);
     }
 
     private static String written(Method m) {
